@@ -179,8 +179,8 @@ public final class PromiseTests {
         due("DRUM of 21", single(4, 9, 0, 0, 0).ask(0, 1, 5), 21);
         due("BUOY: -3 / 2 is cut", single(8, 0).ask(0, 1, 11), -1);
         CoastLamps gas = single(6, 222);
-        gas.ask(0, 0, 25);
-        due("GAS less soot / 10", gas.ask(0, 1, 0), 50);
+        gas.ask(0, 0, 109);
+        due("GAS less soot / 10", gas.ask(0, 1, 0), 42);
         CoastLamps buoy = single(8, 222);
         buoy.ask(0, 0, 50);
         due("BUOY: half of what GAS answers", buoy.ask(0, 1, 0), 25);
