@@ -74,7 +74,9 @@ public final class FaceTest {
                 fault("rule 2: " + inside + " is not static");
             }
             privateNames(inside, openNames);
+            form(inside);
         }
+        form(CoastLamps.class);
         if (CoastLamps.class.getDeclaredClasses().length + 1 > 12) {
             fault("rule 11: more than twelve classes");
         }
@@ -84,6 +86,30 @@ public final class FaceTest {
         for (Method m : of.getDeclaredMethods()) {
             if (Modifier.isPrivate(m.getModifiers()) && openNames.contains(m.getName())) {
                 fault("rule 1: private method " + m);
+            }
+        }
+    }
+
+    /** Rules 5 and 11 of one class: what is static is a constant, and nothing grows too many. */
+    private static void form(Class<?> of) {
+        int held = 0;
+        for (Field f : of.getDeclaredFields()) {
+            boolean constant = Modifier.isFinal(f.getModifiers())
+                && (f.getType().isPrimitive() || f.getType() == String.class);
+            if (Modifier.isStatic(f.getModifiers()) && !constant) {
+                fault("rule 5: " + f);
+            }
+            held += Modifier.isStatic(f.getModifiers()) ? 0 : 1;
+        }
+        if (held > 20) {
+            fault("rule 11: " + of + " has " + held + " fields");
+        }
+        for (Method m : of.getDeclaredMethods()) {
+            if (m.getParameterCount() > 7) {
+                fault("rule 11: " + m + " takes more than seven");
+            }
+            if (m.getExceptionTypes().length > 0) {
+                fault("rule 6: " + m + " says that it throws");
             }
         }
     }
